@@ -139,8 +139,10 @@ public final class ModelTest {
         } else if (dice == 9) {
             same(at + "join(" + place + ")", () -> x.join(place), () -> y.join(place));
         } else {
-            int behind = pick(1, x.count(0) == 0 ? 5 : Math.max(1, x.exhibit(Math.max(0, Math.min(place, x.count(0) - 1)), 1) - 1));
-            same(at + "split(" + place + ", " + behind + ")", () -> x.split(place, behind), () -> y.split(place, behind));
+            int itsPages = place < 0 ? PlainBrief.NONE : x.exhibit(place, 1);
+            int behind = pick(1, Math.max(1, itsPages - 1));
+            same(at + "split(" + place + ", " + behind + ")",
+                    () -> x.split(place, behind), () -> y.split(place, behind));
         }
     }
 

@@ -20,6 +20,7 @@ public final class PromisesTest {
         promise9Clean();
         promise10Print();
         promise10StaleByEachThing();
+        fullParagraphs();
         promise11Set();
         promise12Append();
         promise13ClearBuffer();
@@ -167,6 +168,10 @@ public final class PromisesTest {
         CHECK.dueText("citations after drop", cited(x, 0), "1.6! 1.7!");
         CHECK.dueText("others after drop", cited(x, 11), "1.1! 0.1");
         due("drop of one that nothing cites", x.drop(1), 0);
+        x.undo();
+        x.cite(5, 1, 1);
+        due("drop of the last in the order", x.drop(1), 1);
+        due("the last in the order has no letter", x.citation(5, 0, 1), -1);
         CHECK.refused(x, "drop(1)", OUT, () -> x.drop(1));
         CHECK.refused(x, "drop(-1)", OUT, () -> x.drop(-1));
         CHECK.refused(x, "drop(most)", OUT, () -> x.drop(MOST));
@@ -231,7 +236,11 @@ public final class PromisesTest {
         order(x, "split", "0 1 3 2");
         CHECK.dueText("pages after split", numbers(x, 1), "9 8 12 5");
         CHECK.dueText("citations after split", cited(x, 0), "1.8 3.1 3.12 3.13! 0.9 3.52!");
+        due("the letter after split", x.citation(0, 1, 1), 2);
+        due("the page in the brief after split", x.citation(0, 1, 4), 20);
+        due("binders after split", x.count(2), 1);
         due("split behind the last but one", x.split(0, 8), 4);
+        due("the letter after the second split", x.citation(0, 1, 1), 3);
         CHECK.dueText("pages after the second split", numbers(x, 1), "8 1 8 12 5");
         CHECK.refused(x, "split of one page", ARGUMENT, () -> x.split(1, 1));
         CHECK.refused(x, "split(0, 0)", ARGUMENT, () -> x.split(0, 0));
@@ -344,6 +353,33 @@ public final class PromisesTest {
         type(x, "B.1,A.1");
         x.citeAll(0);
         due("stale by their order", x.paragraph(0, 2), 1);
+    }
+
+    /** What is done to a full paragraph leaves the next one alone. */
+    private static void fullParagraphs() {
+        BriefBuilder x = briefOf(5, 20);
+        for (int paragraph = 0; paragraph < 12; paragraph++) {
+            for (int n = 0; n < 6; n++) {
+                x.cite(paragraph, 1, 8 + n);
+            }
+            x.print(paragraph);
+        }
+        due("stale paragraphs when all are full", x.count(5), 0);
+        x.move(0, 1);
+        due("stale paragraphs after a move", x.count(5), 12);
+        x.print(0);
+        due("stale paragraphs after a print", x.count(5), 11);
+        x.print(11);
+        due("stale paragraphs after two prints", x.count(5), 10);
+        x.move(1, 0);
+        x.split(1, 3);
+        CHECK.dueText("a full paragraph after split", cited(x, 0), "2.5 2.6 2.7 2.8 2.9 2.10");
+        CHECK.dueText("the next one after split", cited(x, 1), "2.5 2.6 2.7 2.8 2.9 2.10");
+        CHECK.dueText("the last one after split", cited(x, 11), "2.5 2.6 2.7 2.8 2.9 2.10");
+        x.join(1);
+        CHECK.dueText("a full paragraph after join", cited(x, 0), "1.8 1.9 1.10 1.11 1.12 1.13");
+        CHECK.dueText("the next one after join", cited(x, 1), "1.8 1.9 1.10 1.11 1.12 1.13");
+        CHECK.dueText("the last one after join", cited(x, 11), "1.8 1.9 1.10 1.11 1.12 1.13");
     }
 
     private static void promise11Set() {
