@@ -2,12 +2,19 @@ import java.util.function.LongSupplier;
 
 /** Counts the answers that are due and those that are not. */
 final class Check {
-    private final String title;
+    private final String name;
+    private String title;
     private int passed = 0;
     private int failed = 0;
 
-    Check(String title) {
-        this.title = title;
+    Check(String name) {
+        this.name = name;
+        this.title = name;
+    }
+
+    /** What is checked from here on is told under this title. */
+    void under(String newTitle) {
+        title = newTitle;
     }
 
     void due(String what, long got, long want) {
@@ -39,6 +46,10 @@ final class Check {
         }
     }
 
+    int checks() {
+        return passed + failed;
+    }
+
     private void count(boolean right, String complaint) {
         if (right) {
             passed++;
@@ -49,7 +60,7 @@ final class Check {
     }
 
     void close() {
-        System.out.println(title + ": " + passed + " passed, " + failed + " failed");
+        System.out.println(name + ": " + passed + " passed, " + failed + " failed");
         if (failed != 0) {
             System.exit(1);
         }

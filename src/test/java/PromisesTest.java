@@ -45,48 +45,8 @@ public final class PromisesTest {
         CHECK.due(what, got, want);
     }
 
-    /** Exhibits with the numbers 0, 1, .. in this order. */
-    private static BriefBuilder briefOf(int... pages) {
-        BriefBuilder x = new BriefBuilder();
-        for (int i = 0; i < pages.length; i++) {
-            x.insert(i, pages[i]);
-        }
-        return x;
-    }
-
-    private static BriefBuilder fullBrief() {
-        BriefBuilder x = new BriefBuilder();
-        for (int i = 0; i < 30; i++) {
-            x.insert(i, 3);
-        }
-        return x;
-    }
-
-    private static void type(BriefBuilder x, String text) {
-        for (char c : text.toCharArray()) {
-            x.append(c);
-        }
-    }
-
-    private static String numbers(BriefBuilder x, int what) {
-        StringBuilder line = new StringBuilder();
-        for (int place = 0; place < x.count(0); place++) {
-            line.append(place == 0 ? "" : " ").append(x.exhibit(place, what));
-        }
-        return line.toString();
-    }
-
-    private static String cited(BriefBuilder x, int paragraph) {
-        StringBuilder line = new StringBuilder();
-        for (int i = 0; i < x.paragraph(paragraph, 0); i++) {
-            line.append(i == 0 ? "" : " ").append(x.citation(paragraph, i, 0)).append('.')
-                    .append(x.citation(paragraph, i, 2)).append(x.citation(paragraph, i, 3) == 1 ? "!" : "");
-        }
-        return line.toString();
-    }
-
     private static void order(BriefBuilder x, String what, String want) {
-        CHECK.dueText("order after " + what, numbers(x, 0), want);
+        CHECK.dueText("order after " + what, Briefs.numbers(x, 0), want);
     }
 
     private static void promise1NewObject() {
@@ -113,7 +73,7 @@ public final class PromisesTest {
         due("insert ahead", x.insert(0, 7), 2);
         due("insert between", x.insert(1, 8), 3);
         order(x, "insert", "2 3 0 1");
-        CHECK.dueText("pages after insert", numbers(x, 1), "7 8 1 60");
+        CHECK.dueText("pages after insert", Briefs.numbers(x, 1), "7 8 1 60");
         x.drop(0);
         due("numbers are not used again", x.insert(0, 1), 4);
         CHECK.refused(x, "insert(-1, 5)", OUT, () -> x.insert(-1, 5));
@@ -124,7 +84,7 @@ public final class PromisesTest {
         CHECK.refused(x, "insert(0, 61)", ARGUMENT, () -> x.insert(0, 61));
         CHECK.refused(x, "insert(0, least)", ARGUMENT, () -> x.insert(0, LEAST));
         due("refused insert takes no number", x.insert(0, 1), 5);
-        BriefBuilder full = fullBrief();
+        BriefBuilder full = Briefs.full();
         due("thirty exhibits", full.count(0), 30);
         CHECK.refused(full, "insert of the 31st", STATE, () -> full.insert(30, 60));
         CHECK.refused(full, "insert of the 31st with 61", ARGUMENT, () -> full.insert(30, 61));
@@ -134,10 +94,10 @@ public final class PromisesTest {
     }
 
     private static void promise3Move() {
-        BriefBuilder x = briefOf(1, 2, 3, 4);
+        BriefBuilder x = Briefs.of(1, 2, 3, 4);
         due("move(0, 2)", x.move(0, 2), 0);
         order(x, "move(0, 2)", "1 2 0 3");
-        CHECK.dueText("pages after move(0, 2)", numbers(x, 1), "2 3 1 4");
+        CHECK.dueText("pages after move(0, 2)", Briefs.numbers(x, 1), "2 3 1 4");
         due("move(3, 0)", x.move(3, 0), 3);
         order(x, "move(3, 0)", "3 1 2 0");
         due("move(0, 3)", x.move(0, 3), 3);
@@ -151,22 +111,22 @@ public final class PromisesTest {
         CHECK.refused(x, "move(most, least)", OUT, () -> x.move(MOST, LEAST));
         BriefBuilder empty = new BriefBuilder();
         CHECK.refused(empty, "move without exhibits", OUT, () -> empty.move(0, 0));
-        BriefBuilder full = fullBrief();
+        BriefBuilder full = Briefs.full();
         due("move(29, 0) of 30", full.move(29, 0), 29);
         due("move(0, 29) of 30", full.move(0, 29), 29);
         due("the last is back", full.exhibit(29, 0), 29);
     }
 
     private static void promise4Drop() {
-        BriefBuilder x = briefOf(5, 6, 7);
+        BriefBuilder x = Briefs.of(5, 6, 7);
         x.cite(0, 1, 6);
         x.cite(0, 1, 7);
         x.cite(11, 1, 1);
         x.cite(11, 0, 1);
         due("drop tells those that were not lost", x.drop(1), 2);
         order(x, "drop", "0 2");
-        CHECK.dueText("citations after drop", cited(x, 0), "1.6! 1.7!");
-        CHECK.dueText("others after drop", cited(x, 11), "1.1! 0.1");
+        CHECK.dueText("citations after drop", Briefs.cited(x, 0), "1.6! 1.7!");
+        CHECK.dueText("others after drop", Briefs.cited(x, 11), "1.1! 0.1");
         due("drop of one that nothing cites", x.drop(1), 0);
         x.undo();
         x.cite(5, 1, 1);
@@ -180,12 +140,12 @@ public final class PromisesTest {
     }
 
     private static void promise5Pages() {
-        BriefBuilder x = briefOf(5, 6);
+        BriefBuilder x = Briefs.of(5, 6);
         x.cite(0, 1, 6);
         due("pages returns the previous", x.pages(1, 5), 6);
-        CHECK.dueText("citation beyond the pages", cited(x, 0), "1.6!");
+        CHECK.dueText("citation beyond the pages", Briefs.cited(x, 0), "1.6!");
         due("pages again", x.pages(1, 60), 5);
-        CHECK.dueText("citation within the pages", cited(x, 0), "1.6");
+        CHECK.dueText("citation within the pages", Briefs.cited(x, 0), "1.6");
         due("pages to 1", x.pages(0, 1), 5);
         due("pages as they are", x.pages(0, 1), 1);
         CHECK.refused(x, "pages(2, 0)", OUT, () -> x.pages(2, 0));
@@ -196,7 +156,7 @@ public final class PromisesTest {
     }
 
     private static void promise6Join() {
-        BriefBuilder x = briefOf(9, 20, 10, 5);
+        BriefBuilder x = Briefs.of(9, 20, 10, 5);
         x.cite(0, 2, 10);
         x.cite(0, 2, 11);
         x.cite(0, 2, 40);
@@ -205,27 +165,27 @@ public final class PromisesTest {
         x.cite(0, 3, 1);
         due("join", x.join(1), 30);
         order(x, "join", "0 1 3");
-        CHECK.dueText("citations after join", cited(x, 0), "1.30 1.31! 1.60! 2.41! 1.21 3.1");
-        CHECK.dueText("pages after join", numbers(x, 1), "9 30 5");
+        CHECK.dueText("citations after join", Briefs.cited(x, 0), "1.30 1.31! 1.60! 2.41! 1.21 3.1");
+        CHECK.dueText("pages after join", Briefs.numbers(x, 1), "9 30 5");
         CHECK.refused(x, "join of the last", OUT, () -> x.join(2));
         CHECK.refused(x, "join(3)", OUT, () -> x.join(3));
         CHECK.refused(x, "join(-1)", OUT, () -> x.join(-1));
         CHECK.refused(x, "join(most)", OUT, () -> x.join(MOST));
         CHECK.refused(x, "join(least)", OUT, () -> x.join(LEAST));
-        BriefBuilder y = briefOf(30, 30, 1, 60);
+        BriefBuilder y = Briefs.of(30, 30, 1, 60);
         due("join to 60", y.join(0), 60);
         CHECK.refused(y, "join to 61", STATE, () -> y.join(0));
         CHECK.refused(y, "join(1) to 61", STATE, () -> y.join(1));
         CHECK.refused(y, "join of the last with 60", OUT, () -> y.join(2));
         BriefBuilder empty = new BriefBuilder();
         CHECK.refused(empty, "join without exhibits", OUT, () -> empty.join(0));
-        BriefBuilder full = fullBrief();
+        BriefBuilder full = Briefs.full();
         due("join at the end of 30", full.join(28), 6);
         due("29 are left", full.count(0), 29);
     }
 
     private static void promise7Split() {
-        BriefBuilder x = briefOf(9, 20, 5);
+        BriefBuilder x = Briefs.of(9, 20, 5);
         x.cite(0, 1, 8);
         x.cite(0, 1, 9);
         x.cite(0, 1, 20);
@@ -234,14 +194,14 @@ public final class PromisesTest {
         x.cite(0, 1, 60);
         due("split", x.split(1, 8), 3);
         order(x, "split", "0 1 3 2");
-        CHECK.dueText("pages after split", numbers(x, 1), "9 8 12 5");
-        CHECK.dueText("citations after split", cited(x, 0), "1.8 3.1 3.12 3.13! 0.9 3.52!");
+        CHECK.dueText("pages after split", Briefs.numbers(x, 1), "9 8 12 5");
+        CHECK.dueText("citations after split", Briefs.cited(x, 0), "1.8 3.1 3.12 3.13! 0.9 3.52!");
         due("the letter after split", x.citation(0, 1, 1), 2);
         due("the page in the brief after split", x.citation(0, 1, 4), 20);
         due("binders after split", x.count(2), 1);
         due("split behind the last but one", x.split(0, 8), 4);
         due("the letter after the second split", x.citation(0, 1, 1), 3);
-        CHECK.dueText("pages after the second split", numbers(x, 1), "8 1 8 12 5");
+        CHECK.dueText("pages after the second split", Briefs.numbers(x, 1), "8 1 8 12 5");
         CHECK.refused(x, "split of one page", ARGUMENT, () -> x.split(1, 1));
         CHECK.refused(x, "split(0, 0)", ARGUMENT, () -> x.split(0, 0));
         CHECK.refused(x, "split(0, 8)", ARGUMENT, () -> x.split(0, 8));
@@ -249,7 +209,7 @@ public final class PromisesTest {
         CHECK.refused(x, "split(0, least)", ARGUMENT, () -> x.split(0, LEAST));
         CHECK.refused(x, "split(5, 0)", OUT, () -> x.split(5, 0));
         CHECK.refused(x, "split(-1, 0)", OUT, () -> x.split(-1, 0));
-        BriefBuilder full = fullBrief();
+        BriefBuilder full = Briefs.full();
         CHECK.refused(full, "split of 30", STATE, () -> full.split(29, 1));
         CHECK.refused(full, "split of 30 at a wrong page", ARGUMENT, () -> full.split(29, 3));
         CHECK.refused(full, "split of 30 at a wrong place", OUT, () -> full.split(30, 3));
@@ -259,14 +219,14 @@ public final class PromisesTest {
     }
 
     private static void promise8Cite() {
-        BriefBuilder x = briefOf(5, 6);
+        BriefBuilder x = Briefs.of(5, 6);
         due("cite", x.cite(11, 1, 6), 1);
         due("cite a lost one", x.cite(11, 1, 60), 2);
         due("cite another paragraph", x.cite(0, 0, 1), 1);
         for (int n = 3; n <= 6; n++) {
             due("cite the same", x.cite(11, 0, 1), n);
         }
-        CHECK.dueText("cited", cited(x, 11), "1.6 1.60! 0.1 0.1 0.1 0.1");
+        CHECK.dueText("cited", Briefs.cited(x, 11), "1.6 1.60! 0.1 0.1 0.1 0.1");
         CHECK.refused(x, "a seventh", STATE, () -> x.cite(11, 0, 1));
         CHECK.refused(x, "a seventh of the page 0", ARGUMENT, () -> x.cite(11, 0, 0));
         CHECK.refused(x, "a seventh of the place 2", OUT, () -> x.cite(11, 2, 0));
@@ -278,19 +238,19 @@ public final class PromisesTest {
     }
 
     private static void promise9Clean() {
-        BriefBuilder x = briefOf(5, 6);
+        BriefBuilder x = Briefs.of(5, 6);
         x.cite(3, 0, 6);
         x.cite(3, 0, 5);
         x.cite(3, 1, 7);
         x.cite(3, 1, 6);
         x.cite(4, 1, 7);
         due("clean", x.clean(3), 2);
-        CHECK.dueText("clean keeps the order", cited(x, 3), "0.5 1.6");
-        CHECK.dueText("clean leaves others", cited(x, 4), "1.7!");
+        CHECK.dueText("clean keeps the order", Briefs.cited(x, 3), "0.5 1.6");
+        CHECK.dueText("clean leaves others", Briefs.cited(x, 4), "1.7!");
         due("clean of none", x.clean(3), 0);
         x.drop(0);
         due("clean of one that is gone", x.clean(3), 1);
-        CHECK.dueText("clean again", cited(x, 3), "1.6");
+        CHECK.dueText("clean again", Briefs.cited(x, 3), "1.6");
         due("clean of an empty one", x.clean(11), 0);
         CHECK.refused(x, "clean(12)", OUT, () -> x.clean(12));
         CHECK.refused(x, "clean(-1)", OUT, () -> x.clean(-1));
@@ -298,7 +258,7 @@ public final class PromisesTest {
     }
 
     private static void promise10Print() {
-        BriefBuilder x = briefOf(5);
+        BriefBuilder x = Briefs.of(5);
         due("first print of an empty one", x.print(11), 1);
         due("printed again", x.print(11), 0);
         due("not stale", x.paragraph(11, 2), 0);
@@ -314,7 +274,7 @@ public final class PromisesTest {
 
     /** Stale by the letter, the page, being lost, or how many; not by the exhibit's number or the brief's pages. */
     private static void promise10StaleByEachThing() {
-        BriefBuilder x = briefOf(20, 5, 5);
+        BriefBuilder x = Briefs.of(20, 5, 5);
         x.cite(0, 1, 5);
         x.print(0);
         x.pages(0, 3);
@@ -329,14 +289,14 @@ public final class PromisesTest {
         due("stale by the letter", x.paragraph(0, 2), 1);
         x.move(2, 1);
         due("not stale with the letter as it was", x.paragraph(0, 2), 0);
-        type(x, "B.6");
+        Briefs.type(x, "B.6");
         x.citeAll(0);
         due("stale by the page", x.paragraph(0, 2), 1);
-        type(x, "B.5,A.1");
+        Briefs.type(x, "B.5,A.1");
         x.citeAll(0);
         due("stale by how many", x.paragraph(0, 2), 1);
         x.move(1, 2);
-        type(x, "B.5");
+        Briefs.type(x, "B.5");
         x.citeAll(0);
         due("not stale by another exhibit with the same letter", x.paragraph(0, 2), 0);
         x.drop(1);
@@ -347,17 +307,17 @@ public final class PromisesTest {
         due("a gone one has no letter that changes", x.paragraph(0, 2), 0);
         x.clean(0);
         due("stale by none", x.paragraph(0, 2), 1);
-        type(x, "A.1,B.1");
+        Briefs.type(x, "A.1,B.1");
         x.citeAll(0);
         x.print(0);
-        type(x, "B.1,A.1");
+        Briefs.type(x, "B.1,A.1");
         x.citeAll(0);
         due("stale by their order", x.paragraph(0, 2), 1);
     }
 
     /** What is done to a full paragraph leaves the next one alone. */
     private static void fullParagraphs() {
-        BriefBuilder x = briefOf(5, 20);
+        BriefBuilder x = Briefs.of(5, 20);
         for (int paragraph = 0; paragraph < 12; paragraph++) {
             for (int n = 0; n < 6; n++) {
                 x.cite(paragraph, 1, 8 + n);
@@ -373,21 +333,21 @@ public final class PromisesTest {
         due("stale paragraphs after two prints", x.count(5), 10);
         x.move(1, 0);
         x.split(1, 3);
-        CHECK.dueText("a full paragraph after split", cited(x, 0), "2.5 2.6 2.7 2.8 2.9 2.10");
-        CHECK.dueText("the next one after split", cited(x, 1), "2.5 2.6 2.7 2.8 2.9 2.10");
-        CHECK.dueText("the last one after split", cited(x, 11), "2.5 2.6 2.7 2.8 2.9 2.10");
+        CHECK.dueText("a full paragraph after split", Briefs.cited(x, 0), "2.5 2.6 2.7 2.8 2.9 2.10");
+        CHECK.dueText("the next one after split", Briefs.cited(x, 1), "2.5 2.6 2.7 2.8 2.9 2.10");
+        CHECK.dueText("the last one after split", Briefs.cited(x, 11), "2.5 2.6 2.7 2.8 2.9 2.10");
         x.join(1);
-        CHECK.dueText("a full paragraph after join", cited(x, 0), "1.8 1.9 1.10 1.11 1.12 1.13");
-        CHECK.dueText("the next one after join", cited(x, 1), "1.8 1.9 1.10 1.11 1.12 1.13");
-        CHECK.dueText("the last one after join", cited(x, 11), "1.8 1.9 1.10 1.11 1.12 1.13");
+        CHECK.dueText("a full paragraph after join", Briefs.cited(x, 0), "1.8 1.9 1.10 1.11 1.12 1.13");
+        CHECK.dueText("the next one after join", Briefs.cited(x, 1), "1.8 1.9 1.10 1.11 1.12 1.13");
+        CHECK.dueText("the last one after join", Briefs.cited(x, 11), "1.8 1.9 1.10 1.11 1.12 1.13");
     }
 
     private static void promise11Set() {
-        BriefBuilder x = briefOf(6, 4, 1);
+        BriefBuilder x = Briefs.of(6, 4, 1);
         due("set(10)", x.set(10), 60);
-        CHECK.dueText("binders of 10", numbers(x, 2), "0 0 1");
+        CHECK.dueText("binders of 10", Briefs.numbers(x, 2), "0 0 1");
         due("set(200)", x.set(200), 10);
-        CHECK.dueText("binders of 200", numbers(x, 2), "0 0 0");
+        CHECK.dueText("binders of 200", Briefs.numbers(x, 2), "0 0 0");
         due("set(200) again", x.set(200), 200);
         CHECK.refused(x, "set(9)", ARGUMENT, () -> x.set(9));
         CHECK.refused(x, "set(201)", ARGUMENT, () -> x.set(201));
@@ -410,7 +370,7 @@ public final class PromisesTest {
 
     private static void promise13ClearBuffer() {
         BriefBuilder x = new BriefBuilder();
-        type(x, "A.1");
+        Briefs.type(x, "A.1");
         due("clearBuffer", x.clearBuffer(), 3);
         due("clearBuffer of an empty one", x.clearBuffer(), 0);
         due("append behind it", x.append('A'), 1);
@@ -419,7 +379,7 @@ public final class PromisesTest {
 
     private static void error(String text, int want) {
         BriefBuilder x = new BriefBuilder();
-        type(x, text);
+        Briefs.type(x, text);
         due("firstError of " + text, x.firstError(), want);
         due("firstError again of " + text, x.firstError(), want);
     }
@@ -463,35 +423,35 @@ public final class PromisesTest {
     }
 
     private static void promise15CiteAll() {
-        BriefBuilder x = briefOf(5, 6);
+        BriefBuilder x = Briefs.of(5, 6);
         x.cite(2, 0, 1);
         x.cite(2, 0, 2);
-        type(x, "B.6,A.6,B.60,A.5,B.1");
+        Briefs.type(x, "B.6,A.6,B.60,A.5,B.1");
         due("citeAll returns how many it had", x.citeAll(2), 2);
-        CHECK.dueText("citeAll", cited(x, 2), "1.6 0.6! 1.60! 0.5 1.1");
+        CHECK.dueText("citeAll", Briefs.cited(x, 2), "1.6 0.6! 1.60! 0.5 1.1");
         due("citeAll clears the buffer", x.clearBuffer(), 0);
         String[] incomplete = {"", "A", "A.", "A.1,", "A.61", "A.1;", "a.1", "A.1,B", "A.1,B.",
             "A.1,A.1,A.1,A.1,A.1,A.1,", "C", "C.0"};
         for (String text : incomplete) {
             x.clearBuffer();
-            type(x, text);
+            Briefs.type(x, text);
             CHECK.refused(x, "citeAll of " + text, ARGUMENT, () -> x.citeAll(2));
             CHECK.refused(x, "citeAll(12) of " + text, OUT, () -> x.citeAll(12));
             CHECK.refused(x, "citeAll(-1) of " + text, OUT, () -> x.citeAll(-1));
         }
         x.clearBuffer();
-        type(x, "A.1,C.1");
+        Briefs.type(x, "A.1,C.1");
         CHECK.refused(x, "citeAll without an exhibit C", STATE, () -> x.citeAll(2));
         CHECK.refused(x, "citeAll(12) without an exhibit C", OUT, () -> x.citeAll(12));
         x.insert(0, 1);
         due("citeAll by the letters of now", x.citeAll(0), 0);
-        CHECK.dueText("citeAll by the letters of now", cited(x, 0), "2.1 1.1");
-        BriefBuilder full = fullBrief();
-        type(full, "AD.3,AA.1,Z.2");
+        CHECK.dueText("citeAll by the letters of now", Briefs.cited(x, 0), "2.1 1.1");
+        BriefBuilder full = Briefs.full();
+        Briefs.type(full, "AD.3,AA.1,Z.2");
         due("citeAll with two letters", full.citeAll(11), 0);
-        CHECK.dueText("citeAll with two letters", cited(full, 11), "29.3 26.1 25.2");
+        CHECK.dueText("citeAll with two letters", Briefs.cited(full, 11), "29.3 26.1 25.2");
         full.drop(0);
-        type(full, "AD.1");
+        Briefs.type(full, "AD.1");
         CHECK.refused(full, "citeAll without an exhibit AD", STATE, () -> full.citeAll(11));
     }
 
@@ -510,19 +470,19 @@ public final class PromisesTest {
     }
 
     private static void promise17Exhibit() {
-        BriefBuilder x = briefOf(20, 40, 1, 60, 60, 5);
+        BriefBuilder x = Briefs.of(20, 40, 1, 60, 60, 5);
         x.move(0, 1);
         x.cite(0, 2, 1);
         x.cite(0, 2, 2);
         x.cite(7, 2, 1);
-        CHECK.dueText("numbers", numbers(x, 0), "1 0 2 3 4 5");
-        CHECK.dueText("pages", numbers(x, 1), "40 20 1 60 60 5");
-        CHECK.dueText("binders", numbers(x, 2), "0 0 1 2 3 4");
-        CHECK.dueText("tabs", numbers(x, 3), "0 1 0 0 0 0");
-        CHECK.dueText("first pages", numbers(x, 4), "1 42 65 69 132 195");
-        CHECK.dueText("citations", numbers(x, 5), "0 0 3 0 0 0");
+        CHECK.dueText("numbers", Briefs.numbers(x, 0), "1 0 2 3 4 5");
+        CHECK.dueText("pages", Briefs.numbers(x, 1), "40 20 1 60 60 5");
+        CHECK.dueText("binders", Briefs.numbers(x, 2), "0 0 1 2 3 4");
+        CHECK.dueText("tabs", Briefs.numbers(x, 3), "0 1 0 0 0 0");
+        CHECK.dueText("first pages", Briefs.numbers(x, 4), "1 42 65 69 132 195");
+        CHECK.dueText("citations", Briefs.numbers(x, 5), "0 0 3 0 0 0");
         x.set(10);
-        CHECK.dueText("an exhibit larger than a binder", numbers(x, 2), "0 1 2 3 4 5");
+        CHECK.dueText("an exhibit larger than a binder", Briefs.numbers(x, 2), "0 1 2 3 4 5");
         for (int what = 0; what <= 5; what++) {
             due("no such place", x.exhibit(6, what), -1);
             due("no such place", x.exhibit(MOST, what), -1);
@@ -535,7 +495,7 @@ public final class PromisesTest {
     }
 
     private static void promise18Citation() {
-        BriefBuilder x = briefOf(50, 20);
+        BriefBuilder x = Briefs.of(50, 20);
         x.cite(1, 1, 20);
         x.cite(1, 1, 21);
         x.cite(1, 0, 50);
@@ -564,7 +524,7 @@ public final class PromisesTest {
     }
 
     private static void promise19Paragraph() {
-        BriefBuilder x = briefOf(5);
+        BriefBuilder x = Briefs.of(5);
         x.cite(4, 0, 5);
         x.cite(4, 0, 6);
         x.print(4);
@@ -580,7 +540,7 @@ public final class PromisesTest {
     }
 
     private static void promise20Table() {
-        BriefBuilder x = briefOf(5, 5);
+        BriefBuilder x = Briefs.of(5, 5);
         x.cite(0, 1, 5);
         x.cite(0, 1, 6);
         x.cite(3, 1, 6);
@@ -595,7 +555,7 @@ public final class PromisesTest {
     }
 
     private static void promise21Count() {
-        BriefBuilder x = briefOf(50, 20, 30);
+        BriefBuilder x = Briefs.of(50, 20, 30);
         x.cite(0, 0, 51);
         x.cite(0, 1, 20);
         x.cite(1, 1, 21);
@@ -611,7 +571,7 @@ public final class PromisesTest {
     }
 
     private static void promise22IfInserted() {
-        BriefBuilder x = briefOf(50, 10, 30);
+        BriefBuilder x = Briefs.of(50, 10, 30);
         x.cite(0, 0, 1);
         x.cite(1, 1, 1);
         x.cite(2, 2, 1);
@@ -634,7 +594,7 @@ public final class PromisesTest {
         CHECK.refused(x, "ifInserted(3, 61, 0)", ARGUMENT, () -> x.ifInserted(3, 61, 0));
         CHECK.refused(x, "ifInserted(3, 1, 2)", ARGUMENT, () -> x.ifInserted(3, 1, 2));
         CHECK.refused(x, "ifInserted(3, 1, -1)", ARGUMENT, () -> x.ifInserted(3, 1, -1));
-        BriefBuilder full = fullBrief();
+        BriefBuilder full = Briefs.full();
         full.cite(0, 29, 1);
         full.print(0);
         due("stale with a 31st", full.ifInserted(0, 60, 0), 12);
@@ -645,7 +605,7 @@ public final class PromisesTest {
     }
 
     private static void promise23IfDropped() {
-        BriefBuilder x = briefOf(5, 6, 7);
+        BriefBuilder x = Briefs.of(5, 6, 7);
         x.cite(0, 0, 5);
         x.cite(1, 1, 6);
         x.cite(1, 1, 7);
@@ -668,14 +628,14 @@ public final class PromisesTest {
     }
 
     private static void promise24BestMove() {
-        BriefBuilder x = briefOf(10, 20, 30);
+        BriefBuilder x = Briefs.of(10, 20, 30);
         x.cite(0, 0, 1);
         x.print(0);
         due("where nothing is stale, the lowest", x.bestMove(2), 1);
         due("where it stands", x.bestMove(0), 0);
         x.move(0, 2);
         due("where it was printed", x.bestMove(2), 0);
-        BriefBuilder y = briefOf(40, 40, 20, 20);
+        BriefBuilder y = Briefs.of(40, 40, 20, 20);
         due("the fewest binders, the lowest", y.bestMove(1), 2);
         due("the fewest binders, at the front", y.bestMove(2), 0);
         y.cite(0, 1, 1);
@@ -689,7 +649,7 @@ public final class PromisesTest {
     }
 
     private static void promise25LeastPages() {
-        BriefBuilder x = briefOf(50, 60, 40, 50);
+        BriefBuilder x = Briefs.of(50, 60, 40, 50);
         due("one binder", x.leastPages(1), 200);
         due("two binders", x.leastPages(2), 110);
         due("three binders", x.leastPages(3), 90);
@@ -721,59 +681,28 @@ public final class PromisesTest {
         CHECK.dueShare("all", x.citedShare(), 1.0);
     }
 
-    /** The digest by the document's list, from the answers of the other calls. */
-    private static long listed(BriefBuilder x, String buffer) {
-        long hash = 3137;
-        for (int what = 0; what <= 8; what++) {
-            hash = 31 * hash + x.count(what);
-        }
-        for (int place = 0; place < x.count(0); place++) {
-            for (int what = 0; what <= 5; what++) {
-                hash = 31 * hash + x.exhibit(place, what);
-            }
-            hash = 31 * hash + x.table(place);
-            hash = 31 * hash + x.ifDropped(place, 0);
-            hash = 31 * hash + x.ifDropped(place, 1);
-            hash = 31 * hash + x.bestMove(place);
-        }
-        for (int paragraph = 0; paragraph < 12; paragraph++) {
-            for (int what = 0; what <= 3; what++) {
-                hash = 31 * hash + x.paragraph(paragraph, what);
-            }
-            for (int i = 0; i < x.paragraph(paragraph, 0); i++) {
-                for (int what = 0; what <= 4; what++) {
-                    hash = 31 * hash + x.citation(paragraph, i, what);
-                }
+    /** Exhibits come in, are cited and printed, and go again, up to the call of this number. */
+    private static BriefBuilder growing(int steps) {
+        BriefBuilder x = Briefs.typed("A.1~");
+        for (int n = 0; n < steps; n++) {
+            if (n < 30) {
+                x.insert(0, 1 + 7 * n % 60);
+                x.cite(n % 12, 0, 1);
+                x.print(n % 7);
+            } else {
+                x.drop(n % 2 == 0 ? 0 : x.count(0) - 1);
             }
         }
-        hash = 31 * hash + x.ifInserted(0, 5, 0);
-        hash = 31 * hash + x.ifInserted(0, 5, 1);
-        hash = 31 * hash + x.leastPages(2);
-        hash = 31 * hash + Double.doubleToLongBits(x.citedShare());
-        hash = 31 * hash + buffer.length();
-        for (char c : buffer.toCharArray()) {
-            hash = 31 * hash + c;
-        }
-        return hash;
+        return x;
     }
 
     private static void promise27Digest() {
-        BriefBuilder x = new BriefBuilder();
-        due("digest of a new one", x.digest(), listed(x, ""));
-        type(x, "A.1~");
-        due("digest with a buffer", x.digest(), listed(x, "A.1~"));
-        x.insert(0, 60);
-        due("digest with one exhibit", x.digest(), listed(x, "A.1~"));
-        for (int n = 1; n < 30; n++) {
-            x.insert(0, 1 + 7 * n % 60);
-            x.cite(n % 12, 0, 1);
-            x.print(n % 7);
-            due("digest with " + n, x.digest(), listed(x, "A.1~"));
+        due("digest of a new one", new BriefBuilder().digest(), Briefs.listed(BriefBuilder::new, ""));
+        for (int n = 0; n <= 60; n++) {
+            int steps = n;
+            due("digest after " + n, growing(n).digest(), Briefs.listed(() -> growing(steps), "A.1~"));
         }
-        for (int n = 0; n < 29; n++) {
-            x.drop(n % 2 == 0 ? 0 : x.count(0) - 1);
-            due("digest without " + n, x.digest(), listed(x, "A.1~"));
-        }
+        BriefBuilder x = growing(40);
         long before = x.digest();
         due("digest changes nothing", x.digest(), before);
     }

@@ -1,6 +1,6 @@
-import java.util.ArrayList;
 import java.util.List;
-import java.util.function.LongSupplier;
+import java.util.function.Supplier;
+import java.util.function.ToLongFunction;
 
 /** Undo after each undoable method, also after one that changed nothing; six saved states; what is not saved. */
 public final class UndoTest {
@@ -31,93 +31,54 @@ public final class UndoTest {
         return x;
     }
 
-    /** All that can be seen, but the saved states. */
-    private static List<Long> seen(BriefBuilder x) {
-        List<Long> seen = new ArrayList<>();
-        for (int what = 0; what <= 7; what++) {
-            seen.add((long) x.count(what));
-        }
-        for (int place = 0; place < x.count(0); place++) {
-            for (int what = 0; what <= 5; what++) {
-                seen.add((long) x.exhibit(place, what));
-            }
-            seen.add((long) x.table(place));
-            seen.add((long) x.ifDropped(place, 1));
-        }
-        for (int paragraph = 0; paragraph < 12; paragraph++) {
-            for (int what = 0; what <= 3; what++) {
-                seen.add((long) x.paragraph(paragraph, what));
-            }
-            for (int i = 0; i < x.paragraph(paragraph, 0); i++) {
-                for (int what = 0; what <= 4; what++) {
-                    seen.add((long) x.citation(paragraph, i, what));
-                }
-            }
-        }
-        return seen;
-    }
-
-    private static void undone(BriefBuilder x, String what, boolean changes, LongSupplier call) {
-        while (x.count(8) > 2) {
-            x.undo();
-        }
-        List<Long> before = seen(x);
-        call.getAsLong();
-        CHECK.due(what + " saves a state", x.count(8), 3);
-        CHECK.due(what + " changes something", seen(x).equals(before) ? 0 : 1, changes ? 1 : 0);
-        CHECK.due("undo of " + what, x.undo(), 2);
-        CHECK.due("all is back after " + what, seen(x).equals(before) ? 1 : 0, 1);
+    /** The call saves the state from before it, and undo brings that back. */
+    private static void undone(Supplier<BriefBuilder> setup, String what, boolean changes,
+            ToLongFunction<BriefBuilder> call) {
+        List<Long> before = Briefs.seen(setup.get());
+        BriefBuilder x = setup.get();
+        int saved = Math.min(x.count(8) + 1, 6);
+        call.applyAsLong(x);
+        CHECK.due(what + " saves a state", x.count(8), saved);
+        CHECK.due(what + " changes something", Briefs.seen(x).equals(before) ? 0 : 1, changes ? 1 : 0);
+        CHECK.due("undo of " + what, x.undo(), saved - 1);
+        CHECK.due("all is back after " + what, Briefs.seen(x).equals(before) ? 1 : 0, 1);
     }
 
     private static void eachMethod() {
-        BriefBuilder x = brief();
-        undone(x, "insert", true, () -> x.insert(1, 7));
-        undone(x, "move", true, () -> x.move(0, 2));
-        undone(x, "drop", true, () -> x.drop(0));
-        undone(x, "pages", true, () -> x.pages(0, 3));
-        undone(x, "join", true, () -> x.join(0));
-        undone(x, "split", true, () -> x.split(0, 4));
-        undone(x, "cite", true, () -> x.cite(4, 0, 1));
-        undone(x, "print", true, () -> x.print(0));
-        undone(x, "set", true, () -> x.set(10));
-        for (char c : "C.3,A.1".toCharArray()) {
-            x.append(c);
-        }
-        undone(x, "citeAll", true, () -> x.citeAll(0));
-        BriefBuilder y = new BriefBuilder();
-        y.insert(0, 5);
-        y.cite(0, 0, 6);
-        undone(y, "clean", true, () -> y.clean(0));
+        Supplier<BriefBuilder> brief = UndoTest::brief;
+        undone(brief, "insert", true, x -> x.insert(1, 7));
+        undone(brief, "move", true, x -> x.move(0, 2));
+        undone(brief, "drop", true, x -> x.drop(0));
+        undone(brief, "pages", true, x -> x.pages(0, 3));
+        undone(brief, "join", true, x -> x.join(0));
+        undone(brief, "split", true, x -> x.split(0, 4));
+        undone(brief, "cite", true, x -> x.cite(4, 0, 1));
+        undone(brief, "clean", true, x -> x.clean(0));
+        undone(brief, "print", true, x -> x.print(0));
+        undone(brief, "set", true, x -> x.set(10));
+        undone(brief, "citeAll", true, x -> Briefs.type(x, "C.3,A.1").citeAll(0));
     }
 
     private static void methodsThatChangeNothing() {
-        BriefBuilder x = new BriefBuilder();
-        x.insert(0, 5);
-        x.print(3);
-        undone(x, "move to where it is", false, () -> x.move(0, 0));
-        undone(x, "the same pages", false, () -> x.pages(0, 5));
-        undone(x, "clean of nothing", false, () -> x.clean(0));
-        undone(x, "print of what is not stale", false, () -> x.print(3));
-        undone(x, "the same setting", false, () -> x.set(60));
+        Supplier<BriefBuilder> brief = () -> {
+            BriefBuilder x = Briefs.of(5);
+            x.print(3);
+            return x;
+        };
+        undone(brief, "move to where it is", false, x -> x.move(0, 0));
+        undone(brief, "the same pages", false, x -> x.pages(0, 5));
+        undone(brief, "clean of nothing", false, x -> x.clean(0));
+        undone(brief, "print of what is not stale", false, x -> x.print(3));
+        undone(brief, "the same setting", false, x -> x.set(60));
     }
 
     private static void methodsThatAreNotUndoable() {
         BriefBuilder x = brief();
         int saved = x.count(8);
-        List<Long> before = seen(x);
-        x.append('A');
-        x.firstError();
-        x.clearBuffer();
-        x.ifInserted(0, 60, 0);
-        x.ifInserted(0, 60, 1);
-        x.ifDropped(0, 0);
-        x.ifDropped(0, 1);
-        x.bestMove(0);
-        x.leastPages(1);
-        x.citedShare();
-        x.digest();
+        List<Long> before = Briefs.seen(x);
+        Briefs.askAll(x);
         CHECK.due("looks save nothing", x.count(8), saved);
-        CHECK.due("looks change nothing", seen(x).equals(before) ? 1 : 0, 1);
+        CHECK.due("looks change nothing", Briefs.seen(x).equals(before) ? 1 : 0, 1);
     }
 
     private static void refusedCalls() {
